@@ -247,6 +247,14 @@ public final class RoundTest {
         t.job(0, 0, 0, 1);
         t.at(5, 5, 1440, 1440);
         dueRound("there is no hour 24", t, 0, 1440, 0);
+        t.mark(5, 5, 0);
+        t.job(0, 1, 0, 1);
+        t.job(1, 0, 0, 1);
+        t.at(5, 5, 1439, 1440);
+        dueRound("two in the last minute", t, 2, 1440, 0, 1, 1439, 0, 1439);
+        t.job(0, 0, 0, 1);
+        t.at(5, 5, 0, 0);
+        dueRound("two in the first minute", t, 2, 0, 0, 0, 0, 1, 0);
     }
 
     private static void loads() {
