@@ -397,5 +397,17 @@ public final class RoundTest {
         Checks.due("nine of ten: back", t.round(1), 78 + 36);
         Checks.due("nine of ten: the first", t.round(100), 0);
         Checks.due("nine of ten: the last", t.round(108), 8);
+        tenJobsInTheLastMinute();
+    }
+
+    private static void tenJobsInTheLastMinute() {
+        BuoyTender t = new BuoyTender();
+        for (int i = 0; i < 10; i++) {
+            t.mark(5, 5, 0);
+            t.job(i, i == 0 ? 1 : 0, 0, 1);
+        }
+        t.at(5, 5, 1439, 1440);
+        dueRound("ten in the last minute", t, 10, 1440, 0, 1, 1439, 2, 1439, 3, 1439, 4, 1439, 5, 1439, 6, 1439, 7, 1439, 8,
+            1439, 9, 1439, 0, 1439);
     }
 }
