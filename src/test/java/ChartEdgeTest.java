@@ -349,8 +349,8 @@ public final class ChartEdgeTest {
     private static void soundingNotBelowNotAbove() {
         BuoyTender t = withMarks(20, 20);
         t.depth(3, 4, 3, 4, 50);
-        int[][] told = {{50, 50, 1}, {50, 200, 1}, {51, 200, 0}, {1, 50, 1}, {1, 49, 0}, {49, 51, 1}, {51, 51, 0}, {49, 49, 0},
-            {0, 50, 1600}, {0, 49, 1599}, {0, 0, 1599}, {1, 200, 1}};
+        int[][] told = {{50, 50, 1}, {50, 200, 1}, {51, 200, 0}, {1, 50, 1}, {1, 49, 0}, {49, 51, 1}, {51, 51, 0},
+            {49, 49, 0}, {0, 50, 1600}, {0, 49, 1599}, {0, 0, 1599}, {1, 200, 1}};
         for (int[] s : told) {
             Checks.due("PLACES of " + s[0] + " to " + s[1], placesOfDepth(t, s[0], s[1]), s[2]);
         }

@@ -142,7 +142,8 @@ public final class LightEdgeTest {
         t.light(0, 4, 4321);
         t.light(1, 4, 2143);
         t.light(2, 2, 55);
-        int[][] wrong = {{4, 4320}, {4, 54321}, {4, 432}, {3, 432}, {9, 4321}, {-4, 4321}, {2, 55}, {2, 5}, {8, 1}, {4, -4321}};
+        int[][] wrong = {{4, 4320}, {4, 54321}, {4, 432}, {3, 432}, {9, 4321}, {-4, 4321}, {2, 55}, {2, 5}, {8, 1},
+            {4, -4321}};
         for (int[] w : wrong) {
             Checks.no("light(1, " + w[0] + ", " + w[1] + ")", t.light(1, w[0], w[1]));
             Checks.due("the old one stays", t.alike(0, 1), 1);

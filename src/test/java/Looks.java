@@ -24,6 +24,7 @@ final class Looks {
         t.sounding(0, 10, 15);
         t.sounding(1, 15, 25);
         t.bearing(2, 0, 1, 1, 1, 1);
+        t.bearing(3, 1, 1, 1, 1, 2);
         fillMonths(t);
         fillRound(t);
         return t;

@@ -221,8 +221,8 @@ public final class RefusedTest {
     private static boolean anyTaken(BuoyTender t, int v, int w) {
         boolean chart = t.depth(v, w, v, w, v) | some(t.mark(v, w, v)) | t.sight(v) | t.bearing(v, w, v, w, v, w)
             | t.sounding(v, w, v) | some(t.lies(v, w));
-        boolean months = t.day(v) | t.chain(v, w, v, w) | t.wear(v, w, v) | some(t.chainOf(v, w)) | t.light(v, w, v) | t.near(v)
-            | some(t.alike(v, w));
+        boolean months = t.day(v) | t.chain(v, w, v, w) | t.wear(v, w, v) | some(t.chainOf(v, w)) | t.light(v, w, v)
+            | t.near(v) | some(t.alike(v, w));
         boolean warnings = some(t.warn(v, w)) | t.cancel(v) | some(t.list(v)) | some(t.listed(v, w)) | some(t.warning(v, w));
         boolean round = t.job(v, w, v, w) | t.weather(v, w, v) | t.ship(v, w, v, w) | t.at(v, w, v, w) | some(t.round(v))
             | some(t.about(v));

@@ -271,8 +271,8 @@ public final class RoundEdgeTest {
 
     /** "the greater of the ways by x and by y, times PACE": each way, to and fro. */
     private static void greaterWay() {
-        int[][] stations = {{27, 25, 7}, {25, 27, 7}, {13, 15, 7}, {15, 13, 7}, {27, 13, 7}, {20, 27, 7}, {13, 20, 7}, {26, 26, 6},
-            {20, 20, 0}};
+        int[][] stations = {{27, 25, 7}, {25, 27, 7}, {13, 15, 7}, {15, 13, 7}, {27, 13, 7}, {20, 27, 7}, {13, 20, 7},
+            {26, 26, 6}, {20, 20, 0}};
         for (int[] s : stations) {
             BuoyTender t = Rounds.withMarks(s[0], s[1]);
             t.at(20, 20, 0, 1440);
