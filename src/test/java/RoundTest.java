@@ -10,6 +10,8 @@ public final class RoundTest {
         backEarliest();
         firstByMarks();
         firstByMarksWhileWaiting();
+        firstByMarksToTheLastMinute();
+        firstByMarksOfAShutHour();
         firstByMarksOfOtherSets();
         plannedAnew();
         tenJobs();
@@ -161,6 +163,42 @@ public final class RoundTest {
         Rounds.due("waiting makes them equal", t, 3, 145, 0, 0, 20, 1, 38, 2, 120);
         t.job(2, 3, 0, 0);
         Rounds.due("without waiting", t, 2, 46, 0, 0, 20, 1, 38);
+    }
+
+    /** 1 is shut in hours 1 and 2, and 2 till hour 3: 0 may go ahead of 1 while 1 is begun at 59, not at 60. */
+    private static void firstByMarksToTheLastMinute() {
+        BuoyTender t = Rounds.withMarks(1, 0, 2, 0, 3, 0);
+        t.depth(1, 0, 1, 0, 200);
+        t.depth(2, 0, 2, 0, 10);
+        t.depth(3, 0, 3, 0, 5);
+        t.ship(0, 10, 12, 0);
+        for (int hour = 1; hour < 24; hour++) {
+            t.weather(hour, hour < 3 ? -5 : 5, 0);
+        }
+        t.job(0, 59, 0, 1);
+        t.job(1, 10, 0, 1);
+        t.job(2, 7, 0, 1);
+        Rounds.due("in the last minute", t, 3, 187, 0, 0, 0, 1, 59, 2, 180);
+        t.job(0, 60, 0, 1);
+        Rounds.due("a minute too late", t, 3, 187, 0, 1, 0, 0, 10, 2, 180);
+    }
+
+    /** 0, 1, 2 would be back as early as 2, 0, 1 if 1 could be begun at 51; but it is shut till 60. */
+    private static void firstByMarksOfAShutHour() {
+        BuoyTender t = Rounds.withMarks(20, 0, 21, 0, 1, 0);
+        t.depth(0, 0, 39, 39, 10);
+        t.depth(21, 0, 21, 0, 4);
+        t.ship(1, 5, 12, 0);
+        for (int hour = 1; hour < 24; hour++) {
+            t.weather(hour, 1, 0);
+        }
+        t.at(0, 0, 30, 1440);
+        t.job(0, 0, 0, 1);
+        t.job(1, 0, 0, 1);
+        t.job(2, 20, 0, 1);
+        Rounds.due("shut in the first hour", t, 3, 92, 0, 2, 31, 0, 70, 1, 71);
+        t.depth(21, 0, 21, 0, 5);
+        Rounds.due("open in the first hour", t, 3, 92, 0, 0, 50, 1, 51, 2, 71);
     }
 
     private static void firstByMarksOfOtherSets() {
