@@ -43,9 +43,10 @@ public final class BuoyTender {
     private final int[] wears = new int[KINDS_OF_GROUND * MONTHS_OF_YEAR];
     private final Warnings warnings = new Warnings();
     private final Ship vessel = new Ship();
-    private final Planner planner = new Planner();
     private final Survey survey = new Survey();
     private final Rhythm proposed = new Rhythm();
+    // Its tables are most of what an object holds: an object that is asked for no round goes without them.
+    private Planner planner;
     private int markCount;
     private int today;
     private int nearness;
@@ -290,6 +291,9 @@ public final class BuoyTender {
     }
 
     public int round(int what) {
+        if (planner == null) {
+            planner = new Planner();
+        }
         if (!planned) {
             planner.plan(marks, depths, vessel);
             planned = true;

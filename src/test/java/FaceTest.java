@@ -52,9 +52,17 @@ public final class FaceTest {
         }
         System.out.println("methods of the face: " + seen.size());
         Checks.yes("the methods are the document's: " + seen, seen.equals(due));
-        for (Method m : face.getDeclaredMethods()) {
-            Checks.no("a private method is called " + m.getName(),
+        privateMethods(face, names);
+        for (Class<?> c : face.getDeclaredClasses()) {
+            privateMethods(c, names);
+        }
+    }
+
+    private static void privateMethods(Class<?> c, Set<String> names) {
+        for (Method m : c.getDeclaredMethods()) {
+            Checks.no("a private method of " + c.getName() + " is called " + m.getName(),
                 Modifier.isPrivate(m.getModifiers()) && names.contains(m.getName()));
+            Checks.yes(m.getName() + " takes seven arguments at most", m.getParameterCount() <= 7);
         }
     }
 

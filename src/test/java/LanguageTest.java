@@ -24,6 +24,7 @@ public final class LanguageTest {
             Checks.yes("only java.util is imported: " + line,
                 !line.startsWith("import ") || line.matches("import java\\.util\\.(Arrays|ArrayList|List);"));
         }
+        madeOnce(lines);
         methodLengths(lines);
         Checks.finish();
     }
@@ -32,6 +33,17 @@ public final class LanguageTest {
         String bare = line.strip();
         boolean comment = bare.startsWith("//") || bare.startsWith("/*") || bare.startsWith("*");
         return comment ? "" : bare;
+    }
+
+    /** Nothing that a call makes is thrown away: the room of a run holds that too. */
+    private static void madeOnce(List<String> lines) {
+        Pattern kept = Pattern.compile(
+            "private final .* = new .*;|marks\\[number\\] = new Mark\\(.*;|planner = new Planner\\(\\);");
+        for (int i = 0; i < lines.size(); i++) {
+            String code = code(lines.get(i));
+            Checks.yes("line " + (i + 1) + " makes what is kept: " + code,
+                !code.matches(".*\\b(new|clone|copyOf|copyOfRange)\\b.*") || kept.matcher(code).matches());
+        }
     }
 
     /** A method starts where a brace opens behind a parenthesis, four or eight signs in, and ends with a brace there. */
